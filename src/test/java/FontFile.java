@@ -160,9 +160,9 @@ final class FontFile {
     }
 
     static long sum(byte[] bytes) {
-        long sum = 0;
-        for (int i = 0; i < bytes.length; i++) {
-            sum += (bytes[i] & 255L) << (24 - 8 * (i % 4));
+        int sum = 0;
+        for (int word : words(bytes)) {
+            sum += word;
         }
         return sum & 0xFFFFFFFFL;
     }
@@ -174,14 +174,21 @@ final class FontFile {
 
     static void into(GlyphLines lines, byte[] file) {
         lines.cut(0);
-        for (int i = 0; i < file.length; i += 4) {
-            int word = 0;
-            for (int k = i; k < i + 4; k++) {
-                word = word << 8 | (k < file.length ? file[k] & 255 : 0);
-            }
-            Check.due("feed", lines.feed(word), i + 4);
+        int size = 0;
+        for (int word : words(file)) {
+            size += 4;
+            Check.due("feed", lines.feed(word), size);
         }
         lines.cut(file.length);
+    }
+
+    /** The bytes by fours, with zeros behind them, if need be. */
+    static int[] words(byte[] bytes) {
+        int[] words = new int[(bytes.length + 3) / 4];
+        for (int i = 0; i < bytes.length; i++) {
+            words[i / 4] |= (bytes[i] & 255) << (24 - 8 * (i % 4));
+        }
+        return words;
     }
 
     /** What a new object says to this file. */

@@ -17,6 +17,7 @@ public final class LoadFileTest {
         tables();
         firstFaultWins();
         fontOfBeforeStays();
+        anotherFont();
         fontDoesNotChangeWithTheFile();
         Check.end();
     }
@@ -158,11 +159,15 @@ public final class LoadFileTest {
         formless.into(lines);
         Check.due("FORMS are wrong", lines.load(true), GlyphLines.FORMS);
         checkSmall(lines);
+    }
+
+    private static void anotherFont() {
+        GlyphLines lines = small().font();
         FontFile.of(new byte[0], new byte[0], new byte[0]).into(lines);
         Check.due("another font", lines.load(true), 3);
         Check.due("its measure(0, 1)", lines.measure(0, 1), 0);
         Check.due("its measure(2, 0)", lines.measure(2, 0), 12);
-        right.into(lines);
+        small().into(lines);
         Check.due("the first again", lines.load(true), 2);
         checkSmall(lines);
     }

@@ -822,10 +822,10 @@ public final class GlyphLines {
 
         private final Picture picture;
         private final Outline outline;
-        // A contour's points, with those that are put in: at most one behind each.
-        private final int[] ringX = new int[2 * Outline.MOST_POINTS];
-        private final int[] ringY = new int[2 * Outline.MOST_POINTS];
-        private final boolean[] ringOn = new boolean[2 * Outline.MOST_POINTS];
+        // A contour is a simple glyph's; at most one point is put in behind each of its own.
+        private final int[] ringX = new int[2 * Outline.MOST_SIMPLE_POINTS];
+        private final int[] ringY = new int[2 * Outline.MOST_SIMPLE_POINTS];
+        private final boolean[] ringOn = new boolean[2 * Outline.MOST_SIMPLE_POINTS];
         private int ringSize = 0;
         private int em = 1;
         private int ppem = 0;

@@ -57,14 +57,18 @@ public final class LoadFileTest {
             int found = unchecked(Arrays.copyOf(file, size));
             Check.due("only " + size + " bytes", found, GlyphLines.FILE);
         }
-        byte[] empty = new Bytes().u32(65536).u16(1).zeros(6).u32(1, 0, 28, 0).done();
-        Check.due("a table without bytes at the end", unchecked(empty), GlyphLines.TABLES);
-        Check.due("the same, 27 bytes", unchecked(Arrays.copyOf(empty, 27)), GlyphLines.FILE);
-        Bytes most = new Bytes().u32(65536).u16(16).zeros(6);
-        for (int t = 0; t < 16; t++) {
-            most.u32(t, 0, 0, 0);
+        Check.due("a table without bytes", unchecked(emptyTables(1)), GlyphLines.TABLES);
+        Check.due("the same, 27 bytes", unchecked(Arrays.copyOf(emptyTables(1), 27)), GlyphLines.FILE);
+        Check.due("16 tables", FontFile.loaded(emptyTables(16), true), GlyphLines.TABLES);
+        Check.due("17 tables", FontFile.loaded(emptyTables(17), true), GlyphLines.FILE);
+    }
+
+    private static byte[] emptyTables(int many) {
+        Bytes bytes = new Bytes().u32(65536).u16(many).zeros(6);
+        for (int t = 0; t < many; t++) {
+            bytes.u32(t, 0, 0, 0);
         }
-        Check.due("16 tables", FontFile.loaded(most.done(), true), GlyphLines.TABLES);
+        return bytes.done();
     }
 
     private static void names() {
@@ -123,6 +127,9 @@ public final class LoadFileTest {
             byte[] other = with(file, place + 3, file[place + 3] + 1);
             Check.due(name + " called otherwise", unchecked(other), GlyphLines.TABLES);
         }
+        // The bytes behind the directory look like one more entry.
+        FontFile alike = small().without("maxp").table("AAAA", new Bytes().u32(0x6D617870, 0, 0, 12).done());
+        Check.due("maxp behind the directory", alike.loaded(), GlyphLines.TABLES);
         Check.due("others too", small().table("AAAA", new byte[3]).table("zzzz", new byte[5]).loaded(), 2);
     }
 

@@ -98,6 +98,13 @@ public final class LoadFormsTest {
         wrong("part 1, 3", small().put16("cmap", 4, 1).put16("cmap", 6, 3));
         right("the second part", small().table("cmap",
                 new Bytes().u16(0, 2, 0, 3).u32(0).u16(3, 1).u32(20).all(body).done()));
+        wrong("the second part, but one is said to be there", small().table("cmap",
+                new Bytes().u16(0, 1, 0, 3).u32(0).u16(3, 1).u32(20).all(body).done()));
+        Bytes many = new Bytes().u16(0, 10);
+        for (int p = 0; p < 9; p++) {
+            many.u16(3, p == 1 ? 0 : p).u32(0);
+        }
+        right("the tenth part", small().table("cmap", many.u16(3, 1).u32(84).all(body).done()));
         right("the first of two", small().table("cmap",
                 new Bytes().u16(0, 2, 3, 1).u32(20).u16(3, 1).u32(9999).all(body).done()));
         wrong("the first of two, wrong", small().table("cmap",
@@ -151,6 +158,9 @@ public final class LoadFormsTest {
         right("U16 at 2 is 2", small().table("kern", FontFile.kern(pair)).put16("kern", 2, 2));
         right("U16 at 2 is 65535", small().table("kern", FontFile.kern(pair)).put16("kern", 2, 65535));
         wrong("U16 at 2 is 0", small().table("kern", FontFile.kern(pair)).put16("kern", 2, 0));
+        right("U16 at 2 is 256", small().table("kern", FontFile.kern(pair)).put16("kern", 2, 256));
+        wrong("U16 at 2 is 0, others not", small().table("kern", FontFile.kern(pair)).put16("kern", 2, 0)
+                .put16("kern", 0, 257).put16("kern", 4, 257));
         wrong("U16 at 8 is 0", small().table("kern", FontFile.kern(pair)).put16("kern", 8, 0));
         wrong("U16 at 8 is 257", small().table("kern", FontFile.kern(pair)).put16("kern", 8, 257));
         wrong("one pair too many", small().table("kern", FontFile.kern(pair)).put16("kern", 10, 2));

@@ -14,6 +14,7 @@ public final class OutlineTest {
         widths();
         counts();
         flags();
+        flagsOfEachAxis();
         repeatedFlags();
         shortPlaces();
         moved();
@@ -97,6 +98,16 @@ public final class OutlineTest {
                 -50, -3199, 0, 1, 950, -198, 1, 1);
     }
 
+    private static void flagsOfEachAxis() {
+        // x by an U8 up, y by an S16; x not at all, y by an U8 down; x by an S16, y not at all; and back.
+        byte[] glyph = new Bytes().u16(1).zeros(8).u16(3).u16(0)
+                .u8(0x12, 0x14, 0x20, 0x24)
+                .u8(7).u16(-500, 600)
+                .u16(1000).u8(200, 255).done();
+        GlyphLines lines = FontFile.of(glyph).font();
+        points("flags of each axis", lines, 0, 7, 1000, 0, 0, 7, 800, 0, 0, -493, 800, 0, 0, 107, 1055, 0, 0);
+    }
+
     private static void repeatedFlags() {
         byte[] glyph = new Bytes().u16(1).zeros(8).u16(5).u16(0)
                 .u8(0x3F, 2, 0x36, 0x37 | 8, 200)
@@ -122,24 +133,30 @@ public final class OutlineTest {
 
     private static void moved() {
         byte[] dot = FontFile.simple(new int[] {10, 20, 1, 30, 40, 0});
-        byte[] byBytes = FontFile.composed(new Bytes().u16(2, 0).u8(127, -128).done());
+        byte[] byBytes = FontFile.composed(new Bytes().u16(2 | FOLLOWS, 0).u8(127, -128)
+                .u16(2, 0).u8(-128, 127).done());
         byte[] byWords = FontFile.composed(FontFile.part(FOLLOWS, 0, 300, -301), FontFile.part(0, 0, -1, 1));
         GlyphLines lines = FontFile.of(dot, byBytes, byWords).font();
-        points("S8s", lines, 1, 137, -108, 1, 0, 157, -88, 0, 0);
+        points("S8s", lines, 1, 137, -108, 1, 0, 157, -88, 0, 0,
+                -118, 147, 1, 1, -98, 167, 0, 1);
         points("S16s", lines, 2, 310, -281, 1, 0, 330, -261, 0, 0, 9, 21, 1, 1, 29, 41, 0, 1);
     }
 
     private static void factors() {
         byte[] dot = FontFile.simple(FontFile.lines(100, 40));
-        byte[] one = FontFile.composed(FontFile.part(8, 0, 1, 2, 8192));
-        byte[] two = FontFile.composed(FontFile.part(64, 0, 1, 2, -16384, 4096));
-        byte[] four = FontFile.composed(FontFile.part(128, 0, 1, 2, 16384, 8192, -4096, 24576));
+        byte[] last = FontFile.part(0, 0, 5, 6);
+        byte[] one = FontFile.composed(FontFile.part(FOLLOWS | 8, 0, 1, 2, 8192), last);
+        byte[] two = FontFile.composed(FontFile.part(FOLLOWS | 64, 0, 1, 2, -16384, 4096),
+                FontFile.part(FOLLOWS | 64, 0, 1, 2, 4096, -16384), last);
+        byte[] four = FontFile.composed(FontFile.part(FOLLOWS | 128, 0, 1, 2, 16384, 8192, -4096, 24576),
+                FontFile.part(FOLLOWS | 128, 0, 1, 2, -16384, -8192, 4096, -24576), last);
         byte[] most = FontFile.composed(FontFile.part(FOLLOWS | 8, 0, 0, 0, -32768),
                 FontFile.part(8, 0, 0, 0, 32767));
         GlyphLines lines = FontFile.of(dot, one, two, four, most).font();
-        points("one factor", lines, 1, 51, 22, 1, 0);
-        points("two factors", lines, 2, -99, 12, 1, 0);
-        points("four factors", lines, 3, 100 - 10 + 1, 50 + 60 + 2, 1, 0);
+        points("one factor", lines, 1, 51, 22, 1, 0, 105, 46, 1, 1);
+        points("two factors", lines, 2, -99, 12, 1, 0, 26, -38, 1, 1, 105, 46, 1, 2);
+        // x: 100 - 10 + 1, -100 + 10 + 1; y: 50 + 60 + 2, -50 - 60 + 2.
+        points("four factors", lines, 3, 91, 112, 1, 0, -89, -108, 1, 1, 105, 46, 1, 2);
         points("the greatest", lines, 4, -200, -80, 1, 0, 199, 79, 1, 1);
     }
 

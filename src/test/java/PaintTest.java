@@ -21,6 +21,7 @@ public final class PaintTest {
         fewPoints();
         curveByHand();
         flatCurves();
+        greatCurves();
         halfWayIsRoundedDown();
         curveBackToItsBeginning();
         pointsPutIn();
@@ -129,6 +130,9 @@ public final class PaintTest {
         GlyphLines earlier = contours(FontFile.box(7, 7, 23, 23));
         paint(earlier, 4, 0);
         picture("a little earlier", earlier, 15, 1);
+        GlyphLines low = units(FontFile.box(0, 32, 64, 33));
+        paint(low, 4, 0);
+        picture("a 64th high", low, 15, 1);
         GlyphLines thin = contours(FontFile.box(9, 0, 23, 24));
         paint(thin, 4, 0);
         picture("between two middles", thin);
@@ -302,6 +306,27 @@ public final class PaintTest {
         GlyphLines below = units(new int[] {0, -33, 1, 64, -31, 0, 128, -32, 0, 192, -33, 1, 192, -60, 1, 0, -60, 1});
         paint(below, 4, 0);
         picture("put in at 96, -32", below);
+    }
+
+    private static void greatCurves() {
+        // Curves so great that the seventh parting is missed; the due rows are those of Plain.
+        int[] great = {-400, -4000, 1, 60, -200, 0, 100, 60, 1, 500, 4000, 0, 4000, 4095, 1, 4095, -4096, 1};
+        int[] back = {4000, 4095, 1, 500, 4000, 0, 100, 60, 1, 60, -200, 0, -400, -4000, 1, -4096, 4095, 1};
+        for (int[] contour : new int[][] {great, back}) {
+            GlyphLines lines = contours(contour);
+            Plain plain = new Plain();
+            for (int word : FontFile.words(FontFile.of(FontFile.simple(contour)).done())) {
+                plain.feed(word);
+            }
+            Check.due("load", plain.load(true), 1);
+            plain.type(0);
+            for (int ppem = 4; ppem <= 24; ppem += 4) {
+                Check.due("paint", paint(lines, ppem, 0), plain.paint(ppem));
+                for (int r = 0; r < 24; r++) {
+                    Check.due("great curves: row(" + r + ")", lines.row(r), plain.row(r));
+                }
+            }
+        }
     }
 
     private static void curveBackToItsBeginning() {

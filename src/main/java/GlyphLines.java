@@ -211,7 +211,7 @@ public final class GlyphLines {
         }
 
         int u16(int i) {
-            if (i < 0 || i + 1 >= size) {
+            if (i < 0 || i >= size - 1) {
                 missed = true;
                 return 0;
             }
@@ -694,9 +694,10 @@ public final class GlyphLines {
                 if (last < count || last >= MOST_SIMPLE_POINTS || points + last >= MOST_POINTS) {
                     return false;
                 }
-                Arrays.fill(contourOf, points + count, points + last + 1, contours);
+                for (; count <= last; count++) {
+                    contourOf[points + count] = contours;
+                }
                 contours++;
-                count = last + 1;
             }
             int passedOver = BODY + 2 * many;
             int at = readFlags(bytes, passedOver + 2 + bytes.u16(passedOver), count);
@@ -708,20 +709,19 @@ public final class GlyphLines {
 
         private int readFlags(Span bytes, int place, int count) {
             int at = place;
-            int i = 0;
-            while (i < count) {
-                int flag = bytes.u8(at);
-                at++;
-                int more = 0;
-                if ((flag & REPEATED) != 0) {
-                    more = bytes.u8(at);
-                    at++;
+            int flag = 0;
+            int more = 0;
+            for (int i = 0; i < count; i++) {
+                if (more > 0) {
+                    more--;
+                } else {
+                    flag = bytes.u8(at);
+                    boolean isRepeated = (flag & REPEATED) != 0;
+                    more = isRepeated ? bytes.u8(at + 1) : 0;
+                    at += isRepeated ? 2 : 1;
                 }
-                int end = Math.min(count, i + 1 + more);
-                for (; i < end; i++) {
-                    flags[i] = flag;
-                    isOn[points + i] = (flag & 1) != 0;
-                }
+                flags[i] = flag;
+                isOn[points + i] = (flag & 1) != 0;
             }
             return at;
         }

@@ -22,6 +22,7 @@ public final class PaintTest {
         curveByHand();
         flatCurves();
         greatCurves();
+        manyPointsPutIn();
         halfWayIsRoundedDown();
         curveBackToItsBeginning();
         pointsPutIn();
@@ -312,19 +313,34 @@ public final class PaintTest {
         // Curves so great that the seventh parting is missed; the due rows are those of Plain.
         int[] great = {-400, -4000, 1, 60, -200, 0, 100, 60, 1, 500, 4000, 0, 4000, 4095, 1, 4095, -4096, 1};
         int[] back = {4000, 4095, 1, 500, 4000, 0, 100, 60, 1, 60, -200, 0, -400, -4000, 1, -4096, 4095, 1};
-        for (int[] contour : new int[][] {great, back}) {
-            GlyphLines lines = contours(contour);
-            Plain plain = new Plain();
-            for (int word : FontFile.words(FontFile.of(FontFile.simple(contour)).done())) {
-                plain.feed(word);
-            }
-            Check.due("load", plain.load(true), 1);
-            plain.type(0);
-            for (int ppem = 4; ppem <= 24; ppem += 4) {
-                Check.due("paint", paint(lines, ppem, 0), plain.paint(ppem));
-                for (int r = 0; r < 24; r++) {
-                    Check.due("great curves: row(" + r + ")", lines.row(r), plain.row(r));
-                }
+        asPlain("great curves", great);
+        asPlain("great curves, the other way", back);
+    }
+
+    private static void manyPointsPutIn() {
+        int[] star = new int[72];
+        for (int i = 0; i < 24; i++) {
+            double turn = 2 * Math.PI * i / 24;
+            int radius = i % 2 == 0 ? 32 : 12;
+            star[3 * i] = 32 + (int) (radius * Math.cos(turn));
+            star[3 * i + 1] = 16 + (int) (radius * Math.sin(turn));
+        }
+        asPlain("24 points, none ON", star);
+    }
+
+    private static void asPlain(String what, int[] contour) {
+        FontFile file = FontFile.of(FontFile.simple(contour));
+        GlyphLines lines = file.font();
+        Plain plain = new Plain();
+        for (int word : FontFile.words(file.done())) {
+            plain.feed(word);
+        }
+        Check.due(what + ": load", plain.load(true), 1);
+        plain.type(0);
+        for (int ppem = 4; ppem <= 24; ppem += 4) {
+            Check.due(what + ": paint", paint(lines, ppem, 0), plain.paint(ppem));
+            for (int r = 0; r < 24; r++) {
+                Check.due(what + ": row(" + r + ")", lines.row(r), plain.row(r));
             }
         }
     }

@@ -46,6 +46,15 @@ final class Check {
         }
     }
 
+    /** What a call answers, or the name of what it throws. */
+    static String told(Call made) {
+        try {
+            return Long.toString(made.answer());
+        } catch (RuntimeException e) {
+            return e.getClass().getSimpleName();
+        }
+    }
+
     static void end() {
         if (wrong != 0) {
             System.out.println(wrong + " answers are not as due");

@@ -159,6 +159,12 @@ final class FontFile {
         return directory.all(body.done()).done();
     }
 
+    /** Where a table of a file that was done begins. */
+    static int placeIn(byte[] file, String name) {
+        int entry = new String(file, StandardCharsets.ISO_8859_1).indexOf(name);
+        return words(file)[entry / 4 + 2];
+    }
+
     static long sum(byte[] bytes) {
         int sum = 0;
         for (int word : words(bytes)) {

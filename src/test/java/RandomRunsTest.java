@@ -50,18 +50,10 @@ public final class RandomRunsTest {
     }
 
     private void both(String call, Check.Call one, Check.Call other) {
-        String got = answer(one);
-        String due = answer(other);
+        String got = Check.told(one);
+        String due = Check.told(other);
         if (!got.equals(due)) {
             Check.due(call + ", " + got + " and not " + due, 1, 0);
-        }
-    }
-
-    private static String answer(Check.Call call) {
-        try {
-            return Long.toString(call.answer());
-        } catch (RuntimeException e) {
-            return e.getClass().getSimpleName();
         }
     }
 

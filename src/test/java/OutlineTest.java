@@ -9,14 +9,23 @@ public final class OutlineTest {
     }
 
     public static void main(String[] args) {
-        wrongMeasures();
-        wrongPoints();
+        withoutAFont();
+        measuredGlyphs();
+        measures();
+        glyphsOfPoints();
+        pointsThatAreThere();
+        numbersOfAPoint();
         widths();
         counts();
+        noPoints();
+        mostPoints();
         flags();
         flagsOfEachAxis();
+        greatestSteps();
         repeatedFlags();
+        bytesPassedOver();
         shortPlaces();
+        dataEndWhereTheNextBegin();
         moved();
         factors();
         roundedDown();
@@ -33,30 +42,83 @@ public final class OutlineTest {
         }
     }
 
-    private static void wrongMeasures() {
+    private static void withoutAFont() {
         GlyphLines none = new GlyphLines();
-        Check.state("measure without a font", () -> none.measure(0, 0));
-        Check.state("measure without a font, and wrong", () -> none.measure(-1, 9));
-        GlyphLines lines = FontFile.of(FontFile.simple(FontFile.lines(1, 2)), NO_BYTES).font();
-        Check.index("measure(-1, 0)", () -> lines.measure(-1, 0));
-        Check.index("measure(2, 0)", () -> lines.measure(2, 0));
-        Check.index("measure(0, -1)", () -> lines.measure(0, -1));
-        Check.index("measure(0, 3)", () -> lines.measure(0, 3));
-        Check.due("measure(1, 0)", lines.measure(1, 0), 11);
+        Check.state("measure(0, 0)", () -> none.measure(0, 0));
+        Check.state("measure(-1, 0): the first exception wins", () -> none.measure(-1, 0));
+        Check.state("measure(0, 3): the first exception wins", () -> none.measure(0, 3));
+        Check.state("point(0, 0, 0)", () -> none.point(0, 0, 0));
+        Check.state("point(-1, 0, 0): the first exception wins", () -> none.point(-1, 0, 0));
+        Check.state("point(0, -1, 0): the first exception wins", () -> none.point(0, -1, 0));
+        Check.state("point(0, 0, 4): the first exception wins", () -> none.point(0, 0, 4));
     }
 
-    private static void wrongPoints() {
-        GlyphLines none = new GlyphLines();
-        Check.state("point without a font", () -> none.point(0, 0, 0));
-        Check.state("point without a font, and wrong", () -> none.point(-1, -1, -1));
-        GlyphLines lines = FontFile.of(FontFile.simple(FontFile.lines(1, 2, 3, 4)), NO_BYTES).font();
-        Check.index("point(-1, 0, 0)", () -> lines.point(-1, 0, 0));
-        Check.index("point(2, 0, 0)", () -> lines.point(2, 0, 0));
-        Check.index("point(0, -1, 0)", () -> lines.point(0, -1, 0));
-        Check.index("point(0, 2, 0)", () -> lines.point(0, 2, 0));
-        Check.index("point(1, 0, 0)", () -> lines.point(1, 0, 0));
-        Check.index("point(0, 0, -1)", () -> lines.point(0, 0, -1));
-        Check.index("point(0, 0, 4)", () -> lines.point(0, 0, 4));
+    private static void measuredGlyphs() {
+        GlyphLines one = FontFile.of(new byte[1][0]).font();
+        Check.due("measure(0, 0) of 1 glyph", one.measure(0, 0), 10);
+        GlyphLines most = FontFile.of(new byte[16][0]).font();
+        Check.due("measure(15, 0) of 16 glyphs", most.measure(15, 0), 25);
+        for (int what = 0; what < 3; what++) {
+            int kind = what;
+            Check.index("measure(1, " + what + ") of 1 glyph", () -> one.measure(1, kind));
+            Check.index("measure(16, " + what + ") of 16 glyphs", () -> most.measure(16, kind));
+            for (int g : new int[] {-1, Integer.MIN_VALUE, Integer.MAX_VALUE}) {
+                Check.index("measure(" + g + ", " + what + ")", () -> most.measure(g, kind));
+            }
+        }
+    }
+
+    private static void measures() {
+        GlyphLines lines = FontFile.of(FontFile.simple(FontFile.lines(1, 2), FontFile.lines(3, 4, 5, 6)),
+                NO_BYTES).font();
+        int[] due = {10, 3, 2};
+        for (int what = 0; what < 3; what++) {
+            Check.due("measure(0, " + what + ")", lines.measure(0, what), due[what]);
+        }
+        for (int what : new int[] {-1, 3, 4, Integer.MIN_VALUE, Integer.MAX_VALUE}) {
+            Check.index("measure(0, " + what + ")", () -> lines.measure(0, what));
+            Check.index("measure(1, " + what + ")", () -> lines.measure(1, what));
+            Check.index("measure(2, " + what + ")", () -> lines.measure(2, what));
+        }
+    }
+
+    private static GlyphLines twoPoints() {
+        return FontFile.of(FontFile.simple(FontFile.lines(1, 2, 3, 4)), NO_BYTES).font();
+    }
+
+    private static void glyphsOfPoints() {
+        GlyphLines lines = twoPoints();
+        for (int g : new int[] {-1, 2, 3, Integer.MIN_VALUE, Integer.MAX_VALUE}) {
+            Check.index("point(" + g + ", 0, 0)", () -> lines.point(g, 0, 0));
+        }
+        points("as before", lines, 0, 1, 2, 1, 0, 3, 4, 1, 0);
+        byte[][] most = new byte[16][0];
+        most[15] = FontFile.simple(FontFile.lines(7, 8));
+        points("glyph 15 of 16", FontFile.of(most).font(), 15, 7, 8, 1, 0);
+    }
+
+    private static void pointsThatAreThere() {
+        GlyphLines lines = twoPoints();
+        for (int what = 0; what < 4; what++) {
+            int kind = what;
+            for (int i : new int[] {-1, 2, 3, 63, 64, Integer.MIN_VALUE, Integer.MAX_VALUE}) {
+                Check.index("point(0, " + i + ", " + what + ")", () -> lines.point(0, i, kind));
+            }
+            Check.index("no points: point(1, 0, " + what + ")", () -> lines.point(1, 0, kind));
+            Check.index("no points: point(1, -1, " + what + ")", () -> lines.point(1, -1, kind));
+        }
+        // Another glyph's points, asked for just before, are not this one's.
+        Check.due("point(0, 1, 0)", lines.point(0, 1, 0), 3);
+        Check.index("point(1, 1, 0)", () -> lines.point(1, 1, 0));
+    }
+
+    private static void numbersOfAPoint() {
+        GlyphLines lines = twoPoints();
+        for (int what : new int[] {-1, 4, 5, Integer.MIN_VALUE, Integer.MAX_VALUE}) {
+            Check.index("point(0, 0, " + what + ")", () -> lines.point(0, 0, what));
+            Check.index("point(0, 1, " + what + ")", () -> lines.point(0, 1, what));
+            Check.index("point(0, 2, " + what + ")", () -> lines.point(0, 2, what));
+        }
         points("as before", lines, 0, 1, 2, 1, 0, 3, 4, 1, 0);
     }
 
@@ -87,6 +149,37 @@ public final class OutlineTest {
                 1, 2, 1, 3, 3, 4, 1, 4, 5, 6, 1, 4, 7, 8, 1, 5);
     }
 
+    private static void noPoints() {
+        GlyphLines lines = FontFile.of(NO_BYTES, new Bytes().u16(0).zeros(10).done(),
+                FontFile.composed(FontFile.part(0, 0, 5, 5))).font();
+        for (int g = 0; g < 3; g++) {
+            int glyph = g;
+            Check.due("points of " + g, lines.measure(g, 1), 0);
+            Check.due("contours of " + g, lines.measure(g, 2), 0);
+            Check.index("point(" + g + ", 0, 0)", () -> lines.point(glyph, 0, 0));
+        }
+    }
+
+    private static void mostPoints() {
+        int[] contour = new int[72];
+        for (int i = 0; i < 24; i++) {
+            contour[3 * i] = 10 * i;
+            contour[3 * i + 1] = -i;
+            contour[3 * i + 2] = i % 2;
+        }
+        GlyphLines lines = FontFile.of(FontFile.simple(contour)).font();
+        Check.due("24 points", lines.measure(0, 1), 24);
+        Check.due("the last x", lines.point(0, 23, 0), 230);
+        Check.due("the last y", lines.point(0, 23, 1), -23);
+        Check.due("the last is ON", lines.point(0, 23, 2), 1);
+        Check.due("the last but one is not", lines.point(0, 22, 2), 0);
+        Check.index("point(0, 24, 0)", () -> lines.point(0, 24, 0));
+        GlyphLines four = FontFile.of(FontFile.simple(FontFile.lines(1, 1), FontFile.lines(2, 2),
+                FontFile.lines(3, 3, 4, 4), FontFile.lines(5, 5))).font();
+        Check.due("4 contours", four.measure(0, 2), 4);
+        points("4 contours", four, 0, 1, 1, 1, 0, 2, 2, 1, 1, 3, 3, 1, 2, 4, 4, 1, 2, 5, 5, 1, 3);
+    }
+
     private static void flags() {
         // x and y by an U8 up, an U8 down, not at all, an S16; ON and not.
         byte[] glyph = new Bytes().u16(2).zeros(8).u16(2, 4).u16(2).u8(99, 98)
@@ -108,7 +201,32 @@ public final class OutlineTest {
         points("flags of each axis", lines, 0, 7, 1000, 0, 0, 7, 800, 0, 0, -493, 800, 0, 0, 107, 1055, 0, 0);
     }
 
+    private static void greatestSteps() {
+        // By U8s: 0 and 255, up and down; by S16s: from end to end, -1, -256, 255, 256.
+        byte[] bytes = new Bytes().u16(1).zeros(8).u16(4).u16(0)
+                .u8(0x36, 0x36, 0x06, 0x06, 0x36)
+                .u8(255, 0, 255, 255, 1)
+                .u8(0, 255, 0, 255, 128).done();
+        byte[] words = new Bytes().u16(1).zeros(8).u16(5).u16(0).u8(0, 0, 0, 0, 0, 0)
+                .u16(4095, -8191, 8191, -1, -256, 255)
+                .u16(-4096, 8191, -8191, 256, 127, 128).done();
+        GlyphLines lines = FontFile.of(bytes, words).font();
+        points("by U8s", lines, 0, 255, 0, 0, 0, 255, 255, 0, 0, 0, 255, 0, 0, -255, 0, 0, 0, -254, 128, 0, 0);
+        points("by S16s", lines, 1, 4095, -4096, 0, 0, -4096, 4095, 0, 0, 4095, -4096, 0, 0,
+                4094, -3840, 0, 0, 3838, -3713, 0, 0, 4093, -3585, 0, 0);
+    }
+
     private static void repeatedFlags() {
+        // U8s up for both. Of 3 points: for one more and one alone; for two more; for more than there are.
+        byte[] one = new Bytes().u16(1).zeros(8).u16(2).u16(0).u8(0x3F, 1, 0x06).u8(1, 2, 1, 4, 5, 6).done();
+        byte[] two = new Bytes().u16(1).zeros(8).u16(2).u16(0).u8(0x3F, 2).u8(1, 2, 1, 4, 5, 6).done();
+        byte[] more = new Bytes().u16(1).zeros(8).u16(2).u16(0).u8(0x3F, 3).u8(1, 2, 1, 4, 5, 6).done();
+        byte[] none = new Bytes().u16(1).zeros(8).u16(0).u16(0).u8(0x3F, 0).u8(7, 8).done();
+        GlyphLines ends = FontFile.of(one, two, more, none).font();
+        points("for one more", ends, 0, 1, 4, 1, 0, 3, 9, 1, 0, 2, 3, 0, 0);
+        points("for two more", ends, 1, 1, 4, 1, 0, 3, 9, 1, 0, 4, 15, 1, 0);
+        points("for more than there are", ends, 2, 1, 4, 1, 0, 3, 9, 1, 0, 4, 15, 1, 0);
+        points("for no more", ends, 3, 7, 8, 1, 0);
         byte[] glyph = new Bytes().u16(1).zeros(8).u16(5).u16(0)
                 .u8(0x3F, 2, 0x36, 0x37 | 8, 200)
                 .u8(1, 2, 3, 4, 5, 6)
@@ -116,6 +234,37 @@ public final class OutlineTest {
         GlyphLines lines = FontFile.of(glyph).font();
         points("flags that hold for more", lines, 0, 1, 10, 1, 0, 3, 30, 1, 0, 6, 60, 1, 0,
                 10, 100, 0, 0, 15, 150, 1, 0, 21, 210, 1, 0);
+    }
+
+    private static void bytesPassedOver() {
+        for (int many : new int[] {0, 1, 2, 255, 256, 300}) {
+            Bytes bytes = new Bytes().u16(1).zeros(8).u16(0).u16(many);
+            for (int i = 0; i < many; i++) {
+                bytes.u8(0x99);
+            }
+            GlyphLines lines = FontFile.of(bytes.u8(0x37, 3, 4).done()).font();
+            points(many + " bytes", lines, 0, 3, 4, 1, 0);
+        }
+    }
+
+    private static void dataEndWhereTheNextBegin() {
+        byte[] one = FontFile.simple(FontFile.lines(1, 2));
+        byte[] two = FontFile.simple(FontFile.lines(3, 4));
+        FontFile font = FontFile.of(one, two, NO_BYTES);
+        int size = one.length;
+        GlyphLines as = font.font();
+        points("the first", as, 0, 1, 2, 1, 0);
+        points("the second", as, 1, 3, 4, 1, 0);
+        Check.due("the third has none", as.measure(2, 1), 0);
+        // Glyph 0 without bytes, 1 with the second ones, 2 without; the first ones are no glyph's.
+        GlyphLines other = font.table("loca", new Bytes().u32(size, size, 2 * size, 2 * size).done()).font();
+        Check.due("the first has none", other.measure(0, 1), 0);
+        points("the second", other, 1, 3, 4, 1, 0);
+        // Bytes in front of glyph 0 and behind the last one.
+        GlyphLines inside = font.table("loca", new Bytes().u32(size, 2 * size, 2 * size, 2 * size).done())
+                .longer("glyf", new byte[9]).font();
+        points("from the middle on", inside, 0, 3, 4, 1, 0);
+        Check.due("the second has none", inside.measure(1, 1), 0);
     }
 
     private static void shortPlaces() {

@@ -7,11 +7,14 @@ import java.util.Collections;
 import java.util.IdentityHashMap;
 import java.util.Set;
 
-/** All calls of a run live in one room: a new object is small, and its calls make nothing. */
+/** All calls of a run live in one room: a new object is small, and so is what its calls make. */
 public final class RoomTest {
     private static final int CALLS = 512;
     private static final int MOST_OBJECTS = 600_000 / CALLS;
     private static final int MOST_CELLS = 7_300_000 / CALLS;
+    private static final int CALLS_A_TURN = 8;
+    private static final int TURNS = 45;
+    private static final int BYTES_A_CALL = 4 * MOST_CELLS;
 
     private RoomTest() {
     }
@@ -29,7 +32,8 @@ public final class RoomTest {
         long cells = 0;
         while (!open.isEmpty()) {
             Object next = open.remove();
-            if (seen.add(next)) {
+            boolean isOwn = next.getClass().isArray() || next.getClass().getName().startsWith("GlyphLines");
+            if (isOwn && seen.add(next)) {
                 cells += next.getClass().isArray() ? elements(next, open) : fields(next, open);
             }
         }
@@ -40,7 +44,7 @@ public final class RoomTest {
     private static int elements(Object array, ArrayDeque<Object> open) {
         int many = Array.getLength(array);
         for (int i = 0; i < many && array instanceof Object[]; i++) {
-            open.add(Array.get(array, i));
+            add(Array.get(array, i), open);
         }
         return many;
     }
@@ -52,34 +56,41 @@ public final class RoomTest {
                 many++;
                 field.setAccessible(true);
                 if (!field.getType().isPrimitive()) {
-                    open.add(field.get(object));
+                    add(field.get(object), open);
                 }
             }
         }
         return many;
     }
 
-    private static void calls() {
-        byte[] round = FontFile.simple(new int[] {0, 0, 0, 0, 60, 0, 60, 60, 0, 60, 0, 0});
-        GlyphLines lines = FontFile.of(round, FontFile.composed(FontFile.part(8, 0, 1, 1, 9999))).font();
-        dearCalls(lines);
-        long before = made();
-        for (int i = 0; i < CALLS; i++) {
-            dearCalls(lines);
+    private static void add(Object object, ArrayDeque<Object> open) {
+        if (object != null) {
+            open.add(object);
         }
-        long perTurn = (made() - before) / CALLS;
-        Check.due("calls make nothing, but " + perTurn + " bytes", perTurn < 16, true);
     }
 
-    private static void dearCalls(GlyphLines lines) {
-        lines.feed(1);
-        lines.load(true);
-        lines.type(1);
-        lines.paint(24);
-        lines.point(1, 2, 0);
-        lines.measure(1, 1);
-        lines.kerning(0, 1);
-        lines.glyph(1);
+    private static void calls() {
+        byte[] round = FontFile.simple(new int[] {0, 0, 0, 0, 60, 0, 60, 60, 0, 60, 0, 0});
+        FontFile font = FontFile.of(round, FontFile.composed(FontFile.part(8, 0, 1, 1, 9999)));
+        dearCalls(font.font(), TURNS);
+        GlyphLines lines = font.font();
+        long before = made();
+        dearCalls(lines, TURNS);
+        long perCall = (made() - before) / (TURNS * CALLS_A_TURN);
+        Check.due("a call makes little, but " + perCall + " bytes", perCall < BYTES_A_CALL, true);
+    }
+
+    private static void dearCalls(GlyphLines lines, int turns) {
+        for (int i = 0; i < turns; i++) {
+            lines.feed(1);
+            lines.load(true);
+            lines.type(1);
+            lines.paint(24);
+            lines.point(1, 2, 0);
+            lines.measure(1, 1);
+            lines.kerning(0, 1);
+            lines.glyph(1);
+        }
     }
 
     private static long made() {

@@ -4,37 +4,87 @@ public final class TextTest {
     }
 
     public static void main(String[] args) {
-        withoutAFont();
-        limits();
+        charactersOnBothSides();
+        atMostTwelve();
+        refusedCharactersAreNotInTheText();
+        twelfthAndThirteenth();
+        wipeAnswersHowMany();
+        wipedTextIsGone();
         textStays();
         Check.end();
     }
 
-    private static void withoutAFont() {
+    private static void charactersOnBothSides() {
         GlyphLines lines = new GlyphLines();
-        Check.due("wipe() of no text", lines.wipe(), 0);
+        Check.due("type(-1)", lines.type(-1), false);
         Check.due("type(0)", lines.type(0), true);
         Check.due("type(65535)", lines.type(65535), true);
-        Check.due("type(-1)", lines.type(-1), false);
         Check.due("type(65536)", lines.type(65536), false);
         Check.due("type(the least)", lines.type(Integer.MIN_VALUE), false);
+        Check.due("type(the greatest)", lines.type(Integer.MAX_VALUE), false);
         Check.due("wipe()", lines.wipe(), 2);
-        Check.due("wipe() again", lines.wipe(), 0);
     }
 
-    private static void limits() {
-        GlyphLines lines = FontFile.of(new byte[3][0]).font();
-        for (int i = 0; i < 12; i++) {
+    private static GlyphLines font() {
+        // EM 64, ppem 4: 4 64ths of a pixel for each unit; glyph g is 10 + g of them wide.
+        return FontFile.of(new byte[3][0]).font();
+    }
+
+    private static void typeMany(GlyphLines lines, int many) {
+        for (int i = 0; i < many; i++) {
             Check.due("type, the " + i + "th", lines.type(1), true);
         }
-        Check.due("type, the 13th", lines.type(2), false);
-        Check.due("type, the 13th, wrong", lines.type(-1), false);
-        // EM 64, ppem 4: 4 64ths of a pixel for each unit, and glyph 1 has 11 of them.
-        Check.due("the 13th is not in the text", lines.paint(4), 12 * 44);
+    }
+
+    private static void atMostTwelve() {
+        GlyphLines lines = new GlyphLines();
+        typeMany(lines, 12);
+        for (int c : new int[] {0, 1, 65535, -1, 65536}) {
+            Check.due("the 13th, " + c, lines.type(c), false);
+        }
         Check.due("wipe()", lines.wipe(), 12);
-        Check.due("type", lines.type(2), true);
+        typeMany(lines, 12);
+        Check.due("the 13th again", lines.type(1), false);
+        Check.due("wipe()", lines.wipe(), 12);
+    }
+
+    private static void refusedCharactersAreNotInTheText() {
+        GlyphLines lines = font();
+        lines.type(1);
+        lines.type(-1);
+        lines.type(65536 + 2);
+        lines.type(2);
+        Check.due("1 and 2", lines.paint(4), 44 + 48);
+        Check.due("wipe()", lines.wipe(), 2);
+    }
+
+    private static void twelfthAndThirteenth() {
+        GlyphLines lines = font();
+        typeMany(lines, 11);
+        Check.due("the 12th", lines.type(2), true);
+        Check.due("the 13th", lines.type(0), false);
+        Check.due("the 12th is in the text, the 13th is not", lines.paint(4), 11 * 44 + 48);
+        Check.due("wipe()", lines.wipe(), 12);
+    }
+
+    private static void wipeAnswersHowMany() {
+        GlyphLines lines = new GlyphLines();
+        Check.due("wipe() of no text", lines.wipe(), 0);
+        for (int many = 1; many <= 12; many++) {
+            typeMany(lines, many);
+            Check.due("wipe() of " + many, lines.wipe(), many);
+            Check.due("wipe() again", lines.wipe(), 0);
+        }
+    }
+
+    private static void wipedTextIsGone() {
+        GlyphLines lines = font();
+        lines.type(1);
+        lines.type(1);
+        lines.wipe();
+        Check.due("no text", lines.paint(4), 0);
+        lines.type(2);
         Check.due("only the new text", lines.paint(4), 48);
-        Check.due("wipe()", lines.wipe(), 1);
     }
 
     private static void textStays() {

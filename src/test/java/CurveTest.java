@@ -20,6 +20,7 @@ public final class CurveTest {
         manyPointsPutIn();
         putInPointIsRoundedDown();
         flatCurves();
+        flatCurvesOfOne();
         flatCurvesOfAllWays();
         partedSixTimes();
         partingIsRoundedDown();
@@ -35,6 +36,9 @@ public final class CurveTest {
         GlyphLines off = Painted.contours(new int[] {9, 9, 0});
         Painted.paint(off, 24, 0);
         Painted.picture("one that is not, its own neighbour", off);
+        GlyphLines box = Painted.contours(new int[] {40, 40, 1}, FontFile.box(0, 0, 8, 8), new int[] {30, 50, 0});
+        Painted.paint(box, 16, 0);
+        Painted.picture("in front of a box and behind it", box, 15, 3, 14, 3);
     }
 
     private static void twoPoints() {
@@ -175,6 +179,18 @@ public final class CurveTest {
         Painted.picture("4 * m and 1", first, 15, 7);
     }
 
+    private static void flatCurvesOfOne() {
+        // m is 1: v is 1, 0, u is 72, 4 or 72, 5. Parted, it goes to 50, 33 and back, and meets 32 at 32
+        // and at 32.5: between them is the middle of pixel 0.
+        int[] end = {15, 31, 1, 15, -20, 1, 14, -20, 1};
+        GlyphLines last = Painted.units(join(new int[] {14, 31, 1, 86, 35, 0}, end));
+        Painted.paint(last, 4, 0);
+        Painted.picture("4 * 1", last);
+        GlyphLines first = Painted.units(join(new int[] {14, 31, 1, 86, 36, 0}, end));
+        Painted.paint(first, 4, 0);
+        Painted.picture("4 * 1 and 1", first, 15, 1);
+    }
+
     private static void flatCurvesOfAllWays() {
         for (int way = 0; way < 8; way++) {
             for (boolean back : new boolean[] {false, true}) {
@@ -214,7 +230,21 @@ public final class CurveTest {
     }
 
     private static void partedSixTimes() {
-        // Curves so great that they are not flat when parted 6 times; the due rows are those of Plain.
+        // ppem 24: from -96000, -96000 by 0, 96000 to 96000, -96000. Right of its top, 0, 0, the points are
+        // 96000, -96000; 48000, -24000; 24000, -6000; 12000, -1500; 6000, -375; and, for the sixth
+        // time, 3000, -94. Were it parted 5 times, the line to 6000, -375 would meet -32 at 512, not
+        // at 1021; 7 times, there would be a point 1500, -24, and -32 would be met at 1671.
+        long full = (1L << 48) - 1;
+        GlyphLines right = Painted.contours(new int[] {-4000, -4000, 1, 0, 4000, 0, 4000, -4000, 1});
+        Painted.paint(right, 24, 0);
+        Painted.picture("right of the top", right, 16, (1L << 16) - 1, 17, (1L << 47) - 1,
+                18, full, 19, full, 20, full, 21, full, 22, full, 23, full);
+        // The same, with its top at 2160, 0: -32 is met at 2160 - 1021 = 1139.
+        GlyphLines left = Painted.contours(new int[] {-3910, -4000, 1, 90, 4000, 0, 4090, -4000, 1});
+        Painted.paint(left, 24, 0);
+        Painted.picture("left of the top", left, 16, full - ((1L << 18) - 1), 17, full,
+                18, full, 19, full, 20, full, 21, full, 22, full, 23, full);
+        // Other curves that are not flat when parted 6 times; the due rows are those of Plain.
         int[] great = {-400, -4000, 1, 60, -200, 0, 100, 60, 1, 500, 4000, 0, 4000, 4095, 1, 4095, -4096, 1};
         int[] back = {4000, 4095, 1, 500, 4000, 0, 100, 60, 1, 60, -200, 0, -400, -4000, 1, -4096, 4095, 1};
         Painted.asPlain("great curves", FontFile.of(FontFile.simple(great)), 4, 8, 12, 16, 20, 24);
@@ -262,6 +292,9 @@ public final class CurveTest {
             GlyphLines lines = Painted.units(new int[] {30, 30, 1, 30 + way[0], 30 + way[1], 0});
             Painted.paint(lines, 4, 0);
             Painted.picture("to " + way[0] + ", " + way[1] + " and back", lines);
+            GlyphLines farther = Painted.units(new int[] {300, 300, 1, 300 + way[0], 300 + way[1], 0});
+            Painted.paint(farther, 4, 0);
+            Painted.picture("from 300, 300 to " + way[0] + ", " + way[1] + " and back", farther);
         }
         // In a ring of more points it changes nothing.
         GlyphLines with = Painted.units(join(new int[] {0, 0, 1, 150, 150, 0, 0, 0, 1},

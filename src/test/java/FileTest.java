@@ -25,6 +25,7 @@ public final class FileTest {
         cutOfMoreThanThereIs();
         cutBelowZero();
         cutBytesAreGone();
+        lastOf512Calls();
         Check.end();
     }
 
@@ -227,5 +228,13 @@ public final class FileTest {
         Check.due("load without what no table needs", whole.load(true), 1);
         Check.due("one byte of maxp is cut", whole.cut(font.length - 3), 1);
         Check.due("load without it", whole.load(true), GlyphLines.FILE);
+    }
+
+    private static void lastOf512Calls() {
+        GlyphLines lines = fed(0);
+        for (int call = 2; call < 512; call++) {
+            Check.due("put, call " + call, lines.put(call % 4, call & 255), call < 6 ? 0 : (call - 4) & 255);
+        }
+        Check.due("at(3), call 512", lines.at(3), 511 & 255);
     }
 }

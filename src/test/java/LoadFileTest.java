@@ -28,6 +28,7 @@ public final class LoadFileTest {
         otherTables();
         firstFaultWins();
         fontOfBeforeStays();
+        rightAfterWrong();
         anotherFont();
         fontDoesNotChangeWithTheFile();
         Check.end();
@@ -326,6 +327,28 @@ public final class LoadFileTest {
     private static void fails(String what, GlyphLines lines, byte[] file, int due) {
         FontFile.into(lines, file);
         Check.due(what, lines.load(true), due);
+    }
+
+    private static void rightAfterWrong() {
+        byte[] dot = FontFile.simple(FontFile.lines(1, 1));
+        byte[] cut = Arrays.copyOf(dot, dot.length - 1);
+        byte[] part = FontFile.composed(FontFile.part(0, 1, 0, 0));
+        FontFile[] wrong = {small().shortened("loca", 11), small().shortened("head", 19), small().shortened("hhea", 35),
+            small().shortened("maxp", 5), small().shortened("hmtx", 3), small().shortened("cmap", 20),
+            small().table("kern", new byte[11]), FontFile.of(cut), FontFile.of(part, cut),
+            FontFile.of(part, FontFile.composed(FontFile.part(0, 2, 0, 0)), cut),
+            FontFile.of(FontFile.composed(new byte[3]))};
+        for (FontFile file : wrong) {
+            GlyphLines lines = new GlyphLines();
+            file.into(lines);
+            Check.due("a wrong one", lines.load(true) < 0, true);
+            FontFile right = FontFile.of(FontFile.composed(FontFile.part(0, 1, 0, 0)),
+                    FontFile.composed(FontFile.part(0, 2, 0, 0)), dot).table("kern", FontFile.kern());
+            right.into(lines);
+            Check.due("a right one behind it", lines.load(true), 3);
+            Check.due("its points", lines.measure(0, 1), 1);
+            Check.due("its width", lines.measure(2, 0), 12);
+        }
     }
 
     private static void anotherFont() {

@@ -239,6 +239,10 @@ public final class LoadFormsTest {
         right("the last part ends with the table", cmap(before.u16(3, 1).u32(12)));
         FontFile cut = cmap(before);
         wrong("the last part is cut off", cut.shortened("cmap", cut.table("cmap").length - 1));
+        // The map lies at 0, over the first parts; of the last part's place, 0, the last byte is missing or not.
+        FontFile over = cmap(new Bytes().u16(4, 4, 0, 2, 0, 0, 0, 65535, 0, 0, 0, 0, 0, 0, 3, 1).u32(0));
+        right("a place of 0", over);
+        wrong("a place of 0, cut off", over.shortened("cmap", 35));
     }
 
     private static void cmapPlaceLiesInIt() {

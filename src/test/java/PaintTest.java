@@ -12,6 +12,7 @@ public final class PaintTest {
         rowsOnBothSides();
         pictureIsEmptyFirst();
         onlyPaintChangesThePicture();
+        paintedOften();
         lowerAndUpperEnds();
         leftAndRightSides();
         betweenTwoMiddles();
@@ -109,6 +110,20 @@ public final class PaintTest {
         GlyphLines down = Painted.units(FontFile.lines(0, bottom, 64, bottom, 64, top, 0, top));
         Painted.paint(down, 4, 0);
         Painted.picture("from " + bottom + " to " + top + ", the other way round", down, due);
+    }
+
+    private static void paintedOften() {
+        FontFile file = FontFile.of(FontFile.simple(FontFile.box(0, 0, 64, 64)));
+        GlyphLines lines = file.font();
+        lines.type(0);
+        // An object is used for at most 512 calls: those of into and load, type, and these; then one row.
+        int used = FontFile.words(file.done()).length + 4;
+        int ppem = 4;
+        for (int call = used + 1; call < 512; call++) {
+            ppem = 4 + call % 21;
+            Check.due("paint(" + ppem + "), call " + call, lines.paint(ppem), 10 * ppem);
+        }
+        Check.due("row(15), call 512", lines.row(15), (1L << ppem) - 1);
     }
 
     private static void lowerAndUpperEnds() {

@@ -1,3 +1,4 @@
+import java.util.Arrays;
 import java.util.Random;
 
 /** Runs of calls on fonts made at random, right ones and broken ones: GlyphLines answers as Plain does. */
@@ -120,8 +121,12 @@ public final class RandomRunsTest {
         byte[][] glyphs = new byte[1 + upTo(4)][];
         for (int g = 0; g < glyphs.length; g++) {
             glyphs[g] = once(3) && g > 0 ? composed(g, em) : once(8) ? new byte[0] : simple(em);
+            glyphs[g] = Arrays.copyOf(glyphs[g], glyphs[g].length + (glyphs[g].length & 1));
         }
         FontFile font = FontFile.of(glyphs).table("head", FontFile.head(em, 1));
+        if (once(3)) {
+            font.table("head", FontFile.head(em, 0)).table("loca", halves(glyphs));
+        }
         Bytes widths = new Bytes();
         for (int g = 0; g < glyphs.length; g++) {
             widths.u16(upTo(em), 0);
@@ -143,6 +148,16 @@ public final class RandomRunsTest {
         return font;
     }
 
+    private static byte[] halves(byte[][] glyphs) {
+        Bytes bytes = new Bytes().u16(0);
+        int place = 0;
+        for (byte[] glyph : glyphs) {
+            place += glyph.length;
+            bytes.u16(place / 2);
+        }
+        return bytes.done();
+    }
+
     private int coordinate(int em) {
         int most = once(6) ? 4095 : em;
         return Math.min(4095, upTo(most * 2) - most / 2);
@@ -151,7 +166,7 @@ public final class RandomRunsTest {
     private byte[] simple(int em) {
         int contours = 1 + upTo(3);
         Bytes ends = new Bytes();
-        Bytes flags = new Bytes();
+        int[] flags = new int[24];
         Bytes xs = new Bytes();
         Bytes ys = new Bytes();
         int points = 0;
@@ -161,21 +176,36 @@ public final class RandomRunsTest {
             for (int i = upTo(5); i >= 0; i--) {
                 int nextX = once(5) ? x : coordinate(em);
                 int nextY = once(5) ? y : coordinate(em);
-                int flag = upTo(1) | axis(xs, nextX - x, 2, 16) | axis(ys, nextY - y, 4, 32);
+                flags[points] = upTo(1) | axis(xs, nextX - x, 2, 16) | axis(ys, nextY - y, 4, 32);
                 x = nextX;
                 y = nextY;
-                if (once(6)) {
-                    flags.u8(flag | 8, 0);
-                } else {
-                    flags.u8(flag);
-                }
                 points++;
             }
             ends.u16(points - 1);
         }
         int passed = upTo(3);
         return new Bytes().u16(contours).zeros(8).all(ends.done()).u16(passed).zeros(passed)
-                .all(flags.done()).all(xs.done()).all(ys.done()).done();
+                .all(written(flags, points)).all(xs.done()).all(ys.done()).done();
+    }
+
+    /** Flags that are alike are written once or more often; at the end they may hold for more than there are. */
+    private byte[] written(int[] flags, int points) {
+        Bytes bytes = new Bytes();
+        int i = 0;
+        while (i < points) {
+            int next = i + 1;
+            while (next < points && flags[next] == flags[i]) {
+                next++;
+            }
+            if (once(next - i > 1 ? 2 : 6)) {
+                bytes.u8(flags[i] | 8, next - i - 1 + (next == points ? upTo(2) : 0));
+                i = next;
+            } else {
+                bytes.u8(flags[i]);
+                i++;
+            }
+        }
+        return bytes.done();
     }
 
     /** Writes a difference in one of the ways that there are for it, and answers its flags. */
@@ -192,7 +222,7 @@ public final class RandomRunsTest {
     }
 
     private byte[] composed(int glyphs, int em) {
-        int parts = 1 + upTo(2);
+        int parts = 1 + upTo(3);
         byte[][] all = new byte[parts][];
         for (int k = 0; k < parts; k++) {
             int[] factors = new int[new int[] {0, 1, 2, 4}[upTo(3)]];
@@ -200,7 +230,9 @@ public final class RandomRunsTest {
                 factors[f] = upTo(32768) - 16384;
             }
             int flags = new int[] {0, 8, 64, 0, 128}[factors.length] | (k + 1 < parts ? 32 : 0);
-            all[k] = FontFile.part(flags, upTo(glyphs - 1), upTo(em) - em / 2, upTo(em) - em / 2, factors);
+            all[k] = once(3)
+                    ? new Bytes().u16(flags | 2, upTo(glyphs - 1)).u8(upTo(255), upTo(255)).u16(factors).done()
+                    : FontFile.part(flags, upTo(glyphs - 1), upTo(em) - em / 2, upTo(em) - em / 2, factors);
         }
         return FontFile.composed(all);
     }

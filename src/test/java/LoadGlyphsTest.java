@@ -16,6 +16,7 @@ public final class LoadGlyphsTest {
         noData();
         numberOfContours();
         everyGlyphIsLookedAt();
+        bytesOfNoGlyph();
         endsRise();
         atMost24Points();
         noContours();
@@ -93,6 +94,19 @@ public final class LoadGlyphsTest {
         byte[][] most = new byte[16][0];
         most[15] = bad;
         wrong("glyph 15 of 16", most);
+    }
+
+    private static void bytesOfNoGlyph() {
+        // As glyphs they would be wrong, but no numbers of loca enclose them.
+        byte[] odd = {9, 9, 9, 9, 9, 9};
+        int size = DOT.length;
+        FontFile font = FontFile.of(DOT).table("glyf", new Bytes().all(odd).all(DOT).all(odd).done());
+        font.table("loca", new Bytes().u32(6, 6 + size).done());
+        Check.due("in front of glyph 0 and behind the last one", font.loaded(), 1);
+        font.table("loca", new Bytes().u32(5, 6 + size).done());
+        Check.due("glyph 0 from one byte before on", font.loaded(), GlyphLines.GLYPHS);
+        font.table("loca", new Bytes().u32(6, 5 + size).done());
+        Check.due("glyph 0 up to one byte before", font.loaded(), GlyphLines.GLYPHS);
     }
 
     private static void endsRise() {
